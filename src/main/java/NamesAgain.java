@@ -556,58 +556,41 @@ public final class NamesAgain {
         }
 
         private void advance() {
-            while (at < length && isBlank(byteAt(at))) {
+            while (at < length && (bytes[at] == ' ' || bytes[at] == '\n')) {
                 at++;
             }
-            place = at;
             if (at >= length || at >= most) {
                 // A text that is too long is broken at its limit, even if only blanks lie behind it.
                 kind = length > most ? NO_TOKEN : THE_END;
-                place = Math.min(length, most);
+                place = length > most ? most : length;
                 return;
             }
-            int c = byteAt(at);
-            if (isLetter(c) || isDigit(c)) {
-                readWordOrNumber();
-                return;
-            }
-            sign = c;
-            kind = c == ';' || c == '<' || c == '=' || c == '>' || c == '(' || c == ')' ? A_SIGN : NO_TOKEN;
-            at++;
-        }
-
-        private void readWordOrNumber() {
-            int letters = 0;
-            int digits = 0;
+            place = at;
+            sign = bytes[at];
             word = 0;
             number = 0;
-            for (; at < length && (isLetter(byteAt(at)) || isDigit(byteAt(at))); at++) {
-                int c = byteAt(at);
-                if (isDigit(c)) {
+            int letters = 0;
+            int digits = 0;
+            for (; at < length; at++) {
+                int c = bytes[at];
+                if (c >= 'a' && c <= 'z') {
+                    letters++;
+                    word = word << 8 | c;
+                } else if (c >= '0' && c <= '9') {
                     digits++;
                     number = number * 10 + c - '0';
                 } else {
-                    letters++;
-                    word = word << 8 | c;
+                    break;
                 }
             }
-            if (digits == 0 && letters <= LONGEST_WORD) {
-                kind = A_WORD;
+            if (letters + digits == 0) {
+                at++;
+                kind = sign == ';' || sign == '(' || sign == ')' || sign >= '<' && sign <= '>' ? A_SIGN : NO_TOKEN;
+            } else if (digits == 0) {
+                kind = letters <= LONGEST_WORD ? A_WORD : NO_TOKEN;
             } else {
                 kind = letters == 0 && digits <= LONGEST_NUMBER ? A_NUMBER : NO_TOKEN;
             }
-        }
-
-        private static boolean isBlank(int c) {
-            return c == 32 || c == 10;
-        }
-
-        private static boolean isLetter(int c) {
-            return c >= 'a' && c <= 'z';
-        }
-
-        private static boolean isDigit(int c) {
-            return c >= '0' && c <= '9';
         }
 
         private boolean isWord(String text) {
@@ -662,17 +645,11 @@ public final class NamesAgain {
                 return refuse(NOT_AS_TOLD);
             }
             got = number;
-            return pass();
+            advance();
+            return true;
         }
 
-        private boolean passName(Told town) {
-            return passKnown(town.findName(word));
-        }
-
-        private boolean passSoul(Told town) {
-            return passKnown(town.findSoul(word));
-        }
-
+        /** Passes a WORD that a search has found among NAMES or SOULS, or not. */
         private boolean passKnown(int found) {
             if (kind != A_WORD) {
                 return refuse(CANT_COME);
@@ -681,7 +658,8 @@ public final class NamesAgain {
                 return refuse(WRONG_WORD);
             }
             got = found;
-            return pass();
+            advance();
+            return true;
         }
     }
 
@@ -783,7 +761,7 @@ public final class NamesAgain {
         }
 
         private boolean isFeast(int n, int monday) {
-            return isName(n) && every[n] > 0 && monday % every[n] == 0;
+            return n >= 0 && n < names && every[n] > 0 && monday % every[n] == 0;
         }
     }
 
@@ -870,7 +848,7 @@ public final class NamesAgain {
             if (tape.kind == Tape.A_WORD && draft.isBorneAtFirst(draft.findName(tape.word))) {
                 return tape.refuse(Tape.WRONG_WORD);
             }
-            if (!tape.passName(draft) || !draft.isSoul(s)) {
+            if (!tape.passKnown(draft.findName(tape.word)) || !draft.isSoul(s)) {
                 return false;
             }
             draft.firstName[s] = tape.got;
@@ -894,7 +872,7 @@ public final class NamesAgain {
                 return false;
             }
             int s = tape.got;
-            if (!tape.passName(draft) || !draft.isSoul(s)) {
+            if (!tape.passKnown(draft.findName(tape.word)) || !draft.isSoul(s)) {
                 return false;
             }
             draft.wish[s] = tape.got;
@@ -914,14 +892,14 @@ public final class NamesAgain {
         }
 
         private boolean readWorth() {
-            if (!tape.passSoul(draft)) {
+            if (!tape.passKnown(draft.findSoul(tape.word))) {
                 return false;
             }
             int s = tape.got;
             if (tape.kind == Tape.A_WORD && draft.worthOf(s, draft.findName(tape.word)) != 0) {
                 return tape.refuse(Tape.WRONG_WORD);
             }
-            if (!tape.passName(draft)) {
+            if (!tape.passKnown(draft.findName(tape.word))) {
                 return false;
             }
             int n = tape.got;
@@ -1060,7 +1038,7 @@ public final class NamesAgain {
         }
 
         private int hangedYet(int n) {
-            return Math.max(0, hangedTill[n] - monday);
+            return hangedTill[n] > monday ? hangedTill[n] - monday : 0;
         }
 
         private int cost(int n) {
@@ -1310,7 +1288,7 @@ public final class NamesAgain {
         }
 
         private void feast(int s) {
-            purse[s] = Math.max(0, purse[s] - FEAST_COST);
+            purse[s] = purse[s] > FEAST_COST ? purse[s] - FEAST_COST : 0;
             feasted[s]++;
         }
 
@@ -1482,13 +1460,13 @@ public final class NamesAgain {
 
         private boolean readDeed() {
             if (tape.isWord("takes")) {
-                return setSort(TAKE) && tape.pass() && tape.passName(told);
+                return setSort(TAKE) && tape.pass() && tape.passKnown(told.findName(tape.word));
             }
             if (tape.isWord("swaps")) {
-                return setSort(SWAP) && tape.pass() && tape.passSoul(told);
+                return setSort(SWAP) && tape.pass() && tape.passKnown(told.findSoul(tape.word));
             }
             if (tape.isWord("sells")) {
-                return setSort(SELL) && tape.pass() && tape.passSoul(told);
+                return setSort(SELL) && tape.pass() && tape.passKnown(told.findSoul(tape.word));
             }
             if (tape.isWord("dies")) {
                 return setSort(DIE) && tape.pass();
@@ -1651,7 +1629,7 @@ public final class NamesAgain {
 
         private boolean readLeaf(int leaf) {
             if (leaf == CALLED) {
-                return tape.passName(told) && addStep(CALLED, 0, tape.got);
+                return tape.passKnown(told.findName(tape.word)) && addStep(CALLED, 0, tape.got);
             }
             if (leaf < PURSE) {
                 return addStep(leaf, 0, 0);
