@@ -166,6 +166,9 @@ public final class ActTest {
         hanged.take(1, 0);
         hanged.mondays(1);
         Check.eq("sold for PRICE, not COST", hanged.sell(1, 2), 4);
+        NamesAgain even = Check.town("name n 9;soul s 0 called n;soul t 9;");
+        Check.eq("for the whole purse", even.sell(0, 1), 0);
+        Check.eq("which is empty", even.soul(1, 1), 0);
     }
 
     private static void deaths() {
@@ -224,6 +227,10 @@ public final class ActTest {
         Check.eq("too poor", x.pay(4, 4), 4);
         x.die(0, 0);
         Check.eq("dead", x.pay(0, 1), 1);
+        NamesAgain even = Check.town("name n 9;debt n 99;soul s 99 called n;");
+        Check.eq("the whole debt by the whole purse", even.pay(0, 99), 0);
+        Check.eq("nothing is owed", even.now(5), 0);
+        Check.eq("and nothing left", even.now(4), 0);
     }
 
     private static void lots() {

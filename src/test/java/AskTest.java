@@ -20,7 +20,9 @@ public final class AskTest {
         feasts();
         queue();
         drawn();
+        drawnByHand();
         odds();
+        oddsFromTheStart();
         Check.close();
     }
 
@@ -231,6 +233,7 @@ public final class AskTest {
         Check.eq("for nothing", x.bid(1), 0);
         Check.eq("the purse at most", x.bidder(2), 0);
         Check.eq("second", x.bid(2), 2);
+        Check.eq("a WORTH of 1", Check.town("name a 5;soul s 3;worth s a 1;").bidder(0), 0);
         Check.eq("a bid of an empty purse", x.bidder(3), 3);
         Check.eq("for nothing", x.bid(3), 0);
         x.die(3, 0);
@@ -364,6 +367,49 @@ public final class AskTest {
         Check.eq("MONDAY", x.now(0), 180);
     }
 
+    /** The draws of one MONDAY written out, for SOULS that are called a, b or wait. */
+    private static void drawnByHand() {
+        for (int seed = 0; seed < 4000; seed++) {
+            NamesAgain x = Check.town("name a 1;name b 1;name c 1;soul s 9 called a;soul t 9;soul u 9 called b;");
+            NamesAgain y = Check.town("name a 1;name b 1;name c 1;soul s 9 called a;soul t 9;soul u 9 called b;");
+            Check.eq("one MONDAY", x.drawn(1, seed), 1);
+            int draw = seed;
+            for (int s = 0; s < 3; s++) {
+                draw = draw * 1103515245 + 12345;
+                int what = (draw >>> 8) % 8;
+                draw = what == 0 || what == 1 || what == 3 ? draw * 1103515245 + 12345 : draw;
+                if (what == 0) {
+                    y.swap(s, (draw >>> 8) % 3);
+                } else if (what == 1) {
+                    y.take(s, (draw >>> 8) % 3);
+                } else if (what == 2) {
+                    y.flee(s);
+                } else if (what == 3 && (draw >>> 8) % 5 == 0) {
+                    y.die(s, 0);
+                }
+            }
+            y.mondays(1);
+            Check.is("drawn by " + seed, all(x).equals(all(y)));
+        }
+    }
+
+    private static void oddsFromTheStart() {
+        for (int seed = 0; seed < 3000; seed += 30) {
+            NamesAgain x = Check.town("name a 0;name b 0;name c 0;name d 0;soul s 9 called a;soul t 9;soul u 9 called b;");
+            int called = 0;
+            for (int i = 0; i < 30; i++) {
+                x.drawn(20, seed + i);
+                called += x.soul(2, 0) == NONE ? 0 : 1;
+                x.undo();
+            }
+            Check.eq("odds from " + seed, x.odds(2, 30, seed), called);
+            x.drawn(20, seed);
+            int alone = x.soul(2, 0) == NONE ? 0 : 1;
+            x.undo();
+            Check.eq("odds of one seed", x.odds(2, 1, seed), alone);
+        }
+    }
+
     private static void odds() {
         String text = "name a 1;name b 1;soul s 9 called a;soul t 9;soul u 9 called b;";
         NamesAgain x = Check.town(text);
@@ -378,7 +424,7 @@ public final class AskTest {
                     called += x.soul(s, 0) == NONE ? 0 : 1;
                     x.undo();
                 }
-                String ahead = ActTest.all(x);
+                String ahead = all(x);
                 Check.eq("odds of " + s, x.odds(s, 30, Integer.MAX_VALUE - 5), called);
                 Check.is("all stays", all(x).equals(ahead));
             }

@@ -56,7 +56,14 @@ public final class FaceTest {
         Constructor<?>[] made = NamesAgain.class.getDeclaredConstructors();
         Check.eq("one constructor", made.length, 1);
         Check.is("it is public, without arguments", Modifier.isPublic(made[0].getModifiers()) && made[0].getParameterCount() == 0);
+        Set<String> open = new TreeSet<>();
+        for (String line : FACE) {
+            open.add(line.substring(line.indexOf(' ') + 1, line.indexOf('(')));
+        }
         for (Class<?> inside : NamesAgain.class.getDeclaredClasses()) {
+            for (Method m : inside.getDeclaredMethods()) {
+                Check.is(m + " bears no public method's name", !open.contains(m.getName()));
+            }
             Check.is(inside.getName() + " is private and static",
                 Modifier.isPrivate(inside.getModifiers()) && Modifier.isStatic(inside.getModifiers()));
         }

@@ -123,6 +123,7 @@ public final class RollTest {
         x.mondays(1);
         said(x, "alive", 0, 1, 2, 4);
         said(x, "not alive", 3);
+        said(x, "not number = 1", 0, 2, 3, 4);
         said(x, "waits", 2, 4);
         said(x, "called anna", 1);
         said(x, "called ida");

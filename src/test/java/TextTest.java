@@ -78,6 +78,7 @@ public final class TextTest {
         Check.townFault(";", 1, 0);
         NamesAgain x = Check.town("name abcdefg 1;");
         Check.eq("a WORD of seven", x.count(0), 1);
+        Check.eq("all small letters", Check.town("name az 1;debt az 09;soul zz 1;").count(1), 1);
         NamesAgain empty = Check.town("  \n ");
         Check.eq("blanks alone", empty.count(0), 0);
     }
@@ -287,6 +288,17 @@ public final class TextTest {
         Check.put(x, "name k 5;");
         Check.eq("a new TOWN", x.town(), 1);
         Check.eq("no SENTENCE in it", x.said(-1), NamesAgain.NONE);
+        Check.put(x, "name a 1;soul s 9;worth s a 7;debt a 3;feast a 2;wish s a;old s 0;");
+        x.town();
+        x.die(0, 1);
+        Check.put(x, "name a 1;soul s 9;");
+        x.town();
+        Check.eq("no WORTH is left of the old one", x.worth(0, 0), 0);
+        Check.eq("no debt", x.name(0, 2), 0);
+        Check.eq("no feast", x.name(0, 6), NamesAgain.NONE);
+        Check.eq("no hanged one", x.name(0, 5), 0);
+        Check.eq("no wish", x.soul(0, 3), NamesAgain.NONE);
+        Check.eq("it lives", x.now(1), 1);
         Check.eq("an empty TOWN", x.town(), 0);
         Check.eq("no NAMES in it", x.count(0), 0);
     }
