@@ -502,9 +502,11 @@ public final class NamesAgain {
         private static final int MOST_BYTES = 940;
         private static final int LONGEST_WORD = 7;
         private static final int LONGEST_NUMBER = 3;
-        private static final String TOWN_WORDS = "name debt feast soul called wish worth old";
-        private static final String ROLL_WORDS = "takes swaps sells dies hangs flees pays monday";
-        private static final String SENTENCE_WORDS = "or and not alive waits called fled glad purse owes feasts number";
+        // A blank ends each one, the last one too.
+        private static final String TOWN_WORDS = "name debt feast soul called wish worth old ";
+        private static final String ROLL_WORDS = "takes swaps sells dies hangs flees pays monday ";
+        private static final String SENTENCE_WORDS = "or and not alive waits fled glad purse owes feasts number ";
+        private static final int MOST_OWN_WORDS = 27;
 
         private static final int THE_END = 0;
         private static final int A_WORD = 1;
@@ -518,6 +520,8 @@ public final class NamesAgain {
         private static final int ONE_TOO_MANY = 4;
 
         private final byte[] bytes = new byte[MOST_BYTES];
+        private final long[] ownWords = new long[MOST_OWN_WORDS];
+        private int ownCount;
         private int length;
         private int most;
         private int at;
@@ -531,6 +535,25 @@ public final class NamesAgain {
         private int got;
         private int faultKind;
         private int faultPlace;
+
+        private Tape() {
+            keepOwn(TOWN_WORDS);
+            keepOwn(ROLL_WORDS);
+            keepOwn(SENTENCE_WORDS);
+        }
+
+        private void keepOwn(String words) {
+            long packed = 0;
+            for (int i = 0; i < words.length() && ownCount < MOST_OWN_WORDS; i++) {
+                if (words.charAt(i) == ' ') {
+                    ownWords[ownCount] = packed;
+                    ownCount++;
+                    packed = 0;
+                } else {
+                    packed = packed << 8 | words.charAt(i);
+                }
+            }
+        }
 
         private boolean hasRoom(int more) {
             return length + more <= MOST_BYTES;
@@ -605,20 +628,17 @@ public final class NamesAgain {
             return kind == A_SIGN && sign == c;
         }
 
-        private boolean isOwnWord() {
-            return isAmong(TOWN_WORDS) || isAmong(ROLL_WORDS) || isAmong(SENTENCE_WORDS);
-        }
-
-        private boolean isAmong(String words) {
-            long packed = 0;
-            for (int i = 0; i <= words.length(); i++) {
-                boolean isOver = i == words.length() || words.charAt(i) == ' ';
-                if (isOver && packed == word) {
-                    return true;
-                }
-                packed = isOver ? 0 : packed << 8 | words.charAt(i);
+        /** The document's own WORDS are never NAMES or SOULS, so they can't come where one of these must. */
+        private boolean canBeNameOrSoul() {
+            if (kind != A_WORD) {
+                return false;
             }
-            return false;
+            for (int i = 0; i < ownWords.length; i++) {
+                if (ownWords[i] == word) {
+                    return false;
+                }
+            }
+            return true;
         }
 
         /** Keeps a FAULT at the TOKEN ahead; false, so that readers can answer with it. */
@@ -651,7 +671,7 @@ public final class NamesAgain {
 
         /** Passes a WORD that a search has found among NAMES or SOULS, or not. */
         private boolean passKnown(int found) {
-            if (kind != A_WORD) {
+            if (!canBeNameOrSoul()) {
                 return refuse(CANT_COME);
             }
             if (found == NONE) {
@@ -845,10 +865,11 @@ public final class NamesAgain {
         }
 
         private boolean readFirstName(int s) {
-            if (tape.kind == Tape.A_WORD && draft.isBorneAtFirst(draft.findName(tape.word))) {
+            int n = draft.findName(tape.word);
+            if (tape.kind == Tape.A_WORD && n != NONE && draft.isBorneAtFirst(n)) {
                 return tape.refuse(Tape.WRONG_WORD);
             }
-            if (!tape.passKnown(draft.findName(tape.word)) || !draft.isSoul(s)) {
+            if (!tape.passKnown(n) || !draft.isSoul(s)) {
                 return false;
             }
             draft.firstName[s] = tape.got;
@@ -919,14 +940,11 @@ public final class NamesAgain {
         }
 
         private boolean passNewWord() {
-            if (tape.kind != Tape.A_WORD) {
+            if (!tape.canBeNameOrSoul()) {
                 return tape.refuse(Tape.CANT_COME);
             }
             boolean isTold = draft.findName(tape.word) != NONE || draft.findSoul(tape.word) != NONE;
-            if (isTold || tape.isOwnWord()) {
-                return tape.refuse(Tape.WRONG_WORD);
-            }
-            return tape.pass();
+            return isTold ? tape.refuse(Tape.WRONG_WORD) : tape.pass();
         }
     }
 

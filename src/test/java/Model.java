@@ -414,8 +414,17 @@ final class Model {
         return NONE;
     }
 
-    private static int known(World in, Source source, boolean isName) throws Fault {
+    /** A WORD that may stand for a NAME or a SOUL: none of the document's own. */
+    private static Token freeWord(Source source) throws Fault {
         Token token = source.word();
+        if (OWN.contains(token.text)) {
+            throw new Fault(1, token.place);
+        }
+        return token;
+    }
+
+    private static int known(World in, Source source, boolean isName) throws Fault {
+        Token token = freeWord(source);
         int found = index(in, token, isName);
         if (found == NONE) {
             throw new Fault(3, token.place);
@@ -424,8 +433,8 @@ final class Model {
     }
 
     private static String fresh(World in, Source source) throws Fault {
-        Token token = source.word();
-        if (OWN.contains(token.text) || index(in, token, true) != NONE || index(in, token, false) != NONE) {
+        Token token = freeWord(source);
+        if (index(in, token, true) != NONE || index(in, token, false) != NONE) {
             throw new Fault(3, token.place);
         }
         return token.text;
@@ -936,7 +945,7 @@ final class Model {
     private List<String[]> rollLines(Source source) throws Fault {
         List<String[]> lines = new ArrayList<>();
         while (!source.isEnd()) {
-            Token head = source.word();
+            Token head = source.is("monday") ? source.next() : freeWord(source);
             int s = index(w, head, false);
             if (s == NONE && !head.text.equals("monday")) {
                 throw new Fault(3, head.place);

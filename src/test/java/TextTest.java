@@ -2,6 +2,8 @@
 public final class TextTest {
     private static final String NINE_NAMES =
         "name a 1;name b 1;name c 1;name d 1;name e 1;name f 1;name g 1;name h 1;name i 1;";
+    private static final String[] OWN_WORDS = ("name debt feast soul called wish worth old takes swaps sells dies hangs flees pays "
+        + "monday or and not alive waits fled glad purse owes feasts number").split(" ");
     private static final String NINE_SOULS = NINE_NAMES.replace("name", "soul");
 
     public static void main(String[] args) {
@@ -11,6 +13,7 @@ public final class TextTest {
         tokenFaults();
         lineFaults();
         wordFaults();
+        ownWords();
         tooMany();
         tooLong();
         rollFaults();
@@ -113,10 +116,6 @@ public final class TextTest {
         Check.townFault("name n 1;name n 1;", 3, 14);
         Check.townFault("name n 1;soul n 1;", 3, 14);
         Check.townFault("soul n 1;name n 1;", 3, 14);
-        Check.townFault("name soul 1;", 3, 5);
-        Check.townFault("name takes 1;", 3, 5);
-        Check.townFault("soul feasts 1;", 3, 5);
-        Check.townFault("soul number 1;", 3, 5);
         Check.townFault("debt n 1;", 3, 5);
         Check.townFault("soul s 1;debt s 1;", 3, 14);
         Check.townFault("name n 1;debt n 0;debt n 1;", 3, 23);
@@ -129,7 +128,33 @@ public final class TextTest {
         Check.townFault("name n 1;soul s 1;wish s n;wish s n;", 3, 32);
         Check.townFault("name n 1;soul s 1;worth s n 1;worth s n 1;", 3, 38);
         Check.townFault("soul s 1;old s 0;old s 1;", 3, 21);
-        Check.townFault("soul name 1000;", 3, 5);
+    }
+
+    /** The document's own WORDS can't come where a NAME or a SOUL must, be it told there or known. */
+    private static void ownWords() {
+        for (String own : OWN_WORDS) {
+            Check.townFault("name " + own + " 1;", 1, 5);
+            Check.townFault("soul " + own + " 1;", 1, 5);
+            Check.townFault("debt " + own + " 1;", 1, 5);
+            Check.townFault("feast " + own + " 1;", 1, 6);
+            Check.townFault("wish " + own + " n;", 1, 5);
+            Check.townFault("worth " + own + " n 1;", 1, 6);
+            Check.townFault("old " + own + " 1;", 1, 4);
+            Check.townFault("soul s 1 called " + own + ";", 1, 16);
+            Check.townFault("soul s 1;wish s " + own + ";", 1, 16);
+            Check.townFault("soul s 1;worth s " + own + " 1;", 1, 17);
+            if (!own.equals("monday")) {
+                rollFault(own + " dies;", 1, 0);
+                rollFault(Check.times("monday 1;", 40) + own + " dies;", 1, 360);
+            }
+            rollFault("s takes " + own + ";", 1, 8);
+            rollFault("s swaps " + own + ";", 1, 8);
+            rollFault("s sells " + own + ";", 1, 8);
+            sentenceFault("called " + own, 1, 7);
+            Check.eq("a WORD like '" + own + "'", Check.town("name " + own.substring(1) + "x 1;").count(0), 1);
+        }
+        Check.townFault("soul name 1000;", 1, 5);
+        Check.townFault("name glad 1;\0\0\0\0\0\0\0\0", 1, 5);
     }
 
     private static void tooMany() {
