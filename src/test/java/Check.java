@@ -22,6 +22,14 @@ final class Check {
         eq(what, got ? 1 : 0, 1);
     }
 
+    static int made() {
+        return right + wrong;
+    }
+
+    static int wrong() {
+        return wrong;
+    }
+
     /** Ends the test class's run: exit code 1 if an answer was wrong. */
     static void close() {
         System.out.println(right + " answers right, " + wrong + " wrong");

@@ -2,7 +2,7 @@
 public final class TextTest {
     private static final String NINE_NAMES =
         "name a 1;name b 1;name c 1;name d 1;name e 1;name f 1;name g 1;name h 1;name i 1;";
-    private static final String[] OWN_WORDS = ("name debt feast soul called wish worth old takes swaps sells dies hangs flees pays "
+    static final String[] OWN_WORDS = ("name debt feast soul called wish worth old takes swaps sells dies hangs flees pays "
         + "monday or and not alive waits fled glad purse owes feasts number").split(" ");
     private static final String NINE_SOULS = NINE_NAMES.replace("name", "soul");
 
@@ -179,11 +179,11 @@ public final class TextTest {
         Check.townFault(line + Check.times(" ", 881) + "soul s 1;old s", 1, 900);
     }
 
-    private static NamesAgain two() {
+    static NamesAgain two() {
         return Check.town("name n 1;name m 2;soul s 9 called n;soul t 9;");
     }
 
-    private static void rollFault(String text, int kind, int place) {
+    static void rollFault(String text, int kind, int place) {
         for (int lives = 0; lives < 2; lives++) {
             NamesAgain x = two();
             Check.eq("roll of '" + text + "'", Check.roll(x, text, lives), -2 - place);
@@ -235,7 +235,7 @@ public final class TextTest {
         Check.eq("400 bytes", Check.roll(two(), forty + Check.times(" ", 40), 0), NamesAgain.NONE);
     }
 
-    private static void sentenceGood(String text, int ones) {
+    static void sentenceGood(String text, int ones) {
         NamesAgain x = two();
         Check.eq("sentence '" + text + "'", Check.sentence(x, text), ones);
         Check.eq("fault of '" + text + "'", x.fault(), 0);
@@ -255,7 +255,7 @@ public final class TextTest {
         sentenceGood("alive" + Check.times(" ", 195), 1);
     }
 
-    private static void sentenceFault(String text, int kind, int place) {
+    static void sentenceFault(String text, int kind, int place) {
         NamesAgain x = two();
         Check.sentence(x, "number = 1");
         Check.eq("sentence '" + text + "'", Check.sentence(x, text), -1 - place);
