@@ -134,11 +134,34 @@ public final class EdgeActTest {
         x.take(1, 0);
         x.mondays(5);
         Check.eq("taken, it is one yet", x.name(0, 5), 7);
+        x.sell(1, 2);
+        Check.eq("sold, it is not bought for 4", x.name(0, 3), 1);
+        x.flee(1);
+        Check.eq("fled from, it is one yet", x.name(0, 5), 7);
+        x.undo();
         x.die(1, 0);
         Check.eq("for those who take it then", x.name(0, 1), 4);
         x.undo();
         x.die(1, 1);
         Check.eq("hanged anew", x.name(0, 5), 12);
+    }
+
+    @Says("(12 MONDAYS, that of the hanging counted)")
+    private static void takeTwelveSold() {
+        NamesAgain x = Check.town("name a 9;name b 9;soul p 1 called a;soul q 90;soul r 90;soul s 9 called b;");
+        x.die(0, 1);
+        x.take(1, 0);
+        x.mondays(1);
+        Check.eq("sold", x.sell(1, 2), 0);
+        Check.eq("it is one yet", x.name(0, 5), 11);
+        x.mondays(1);
+        Check.eq("swapped", x.swap(2, 3), 0);
+        Check.eq("it is one yet", x.name(0, 5), 10);
+        Check.eq("the NAME, not who had it", x.name(1, 5), 0);
+        x.mondays(1);
+        x.flee(3);
+        x.lot(0, 1);
+        Check.eq("drawn, it is one yet", x.name(0, 5), 9);
     }
 
     @Says("the purse is COST less.")
@@ -667,6 +690,23 @@ public final class EdgeActTest {
         }
     }
 
+    @Says("5 whether it has changed on this MONDAY, 6 whether it fled at some time (1, 0), 7 feasts.")
+    private static void p07Later() {
+        NamesAgain x = town();
+        x.flee(1);
+        Check.eq("has changed", x.soul(1, 5), 1);
+        Check.eq("has fled", x.soul(1, 6), 1);
+        x.mondays(60);
+        Check.eq("on this MONDAY it has not", x.soul(1, 5), 0);
+        Check.eq("it fled at some time", x.soul(1, 6), 1);
+        Check.eq("no feast fell on it", x.soul(1, 7), 0);
+        NamesAgain y = Check.town("name a 1;feast a 1;soul p 0 called a;");
+        for (int i = 0; i < 4; i++) {
+            y.mondays(50);
+        }
+        Check.eq("200 feasts", y.soul(0, 7), 200);
+    }
+
     @Says("What a NAME is WORTH to a SOUL (0: nothing told); NONE: no such ones.")
     private static void p08Worth() {
         NamesAgain x = town();
@@ -894,6 +934,11 @@ public final class EdgeActTest {
         Check.eq("lived in part", Check.roll(x, "p dies;p dies;", 1), 1);
         Check.eq("undone", x.undo(), 0);
         Check.is("as ahead of it", all(x).equals(ahead));
+        Check.eq("WRONG at once", Check.roll(x, "s flees;", 1), 0);
+        Check.eq("lived as far as it was not", x.undo(), 0);
+        Check.eq("an empty one", x.roll(1), NONE);
+        Check.eq("was lived, too", x.undo(), 0);
+        Check.is("as ahead of them", all(x).equals(ahead));
         Check.roll(x, "p dies;", 0);
         Check.eq("a judged one is not", x.undo(), NONE);
         Check.roll(x, "p dies;!", 1);

@@ -208,6 +208,15 @@ public final class EdgeAskTest {
         Check.eq("no swap", x.swaps(), 0);
     }
 
+    @Says("WISHES: the fewest MONDAYS of swaps (one for each SOUL on each)")
+    private static void p23WhoHasChanged() {
+        NamesAgain x = Check.town(FOUR + "wish p b;wish q c;");
+        x.swap(0, 1);
+        Check.eq("q has changed on this MONDAY", x.wishes(), 1);
+        Check.eq("and swaps", x.swaps(), 1);
+        Check.eq("with r", x.partner(1), 2);
+    }
+
     @Says("WISHES: how many MONDAYS; NONE: never.")
     private static void p23Stays() {
         NamesAgain x = Check.town(FOUR + "wish p b;wish q c;");
@@ -216,6 +225,23 @@ public final class EdgeAskTest {
         x.swaps();
         Check.is("all stays", all(x).equals(ahead));
         Check.eq("nothing to undo", x.undo(), NONE);
+    }
+
+    @Says("SWAPS: how many; NONE: never.")
+    private static void p24Swaps() {
+        String[] told = {"", "wish p a;", "wish p b;", "wish p b;wish q a;", "wish p b;wish q a;wish r d;wish s c;", "wish p b;wish q c;wish r d;",
+            "wish s c;wish r b;wish q a;", "wish p d;wish s b;wish q c;", "wish t a;", "wish p e;", "wish p c;wish q c;"};
+        int[] due = {0, 0, 1, 1, 2, 3, 3, 3, NONE, NONE, NONE};
+        for (int i = 0; i < told.length; i++) {
+            Check.eq("swaps of " + told[i], Check.town(FOUR + told[i]).swaps(), due[i]);
+        }
+        NamesAgain x = Check.town(FOUR + "wish p b;wish q c;wish r d;wish s a;");
+        for (int left = 3; left > 0; left--) {
+            Check.eq("left", x.swaps(), left);
+            Check.eq("swapped", x.swap(3 - left, 4 - left), 0);
+            x.mondays(1);
+        }
+        Check.eq("none is left", x.swaps(), 0);
     }
 
     @Says("With whom a SOUL swaps on the first of these MONDAYS, if one is enough (by the latest wishes(), of 1)")
@@ -315,6 +341,22 @@ public final class EdgeAskTest {
         Check.eq("without SOULS", Check.town("name a 5;").bid(0), NONE);
     }
 
+    @Says("For how much; NONE: nobody bids, no such one.")
+    private static void p27Bid() {
+        NamesAgain x = Check.town("name a 50;name b 1;soul p 9;soul q 9;soul r 2;worth p a 3;worth q a 7;worth r a 99;worth r b 1;");
+        Check.eq("the second most", x.bid(0), 3);
+        Check.eq("one bids alone", x.bid(1), 0);
+        x.die(0, 0);
+        Check.eq("a purse of 2", x.bid(0), 2);
+        x.die(1, 0);
+        Check.eq("alone", x.bid(0), 0);
+        x.die(2, 0);
+        Check.eq("nobody bids", x.bid(0), NONE);
+        Check.eq("nobody bids", x.bid(1), NONE);
+        Check.eq("no such one", x.bid(2), NONE);
+        Check.eq("no such one", x.bid(-1), NONE);
+    }
+
     @Says("BIDDING for a NAME: each who waits bids")
     private static void p26DeadOnes() {
         NamesAgain x = Check.town("name a 5;soul p 9;soul q 9;worth p a 9;worth q a 5;");
@@ -340,6 +382,7 @@ public final class EdgeAskTest {
         Check.eq("a dead one's, too", x.must(0), 9);
         x.mondays(60);
         Check.eq("of a MONDAY that went", x.must(0), 9);
+        Check.eq("who is old lives yet", x.must(7), 13);
         x.flee(2);
         Check.eq("sour ones are free", x.must(0), 11);
     }
@@ -540,6 +583,18 @@ public final class EdgeAskTest {
         Check.eq("PRICE, though COST is half", y.least(2), 9);
     }
 
+    @Says("The least coin by which a SOUL that waits, if it were first, has a NAME now")
+    private static void p32IfItWereFirst() {
+        NamesAgain x = Check.town("name a 9;name b 7;soul p 0 called a;soul q 0;soul r 0;soul s 999;");
+        for (int s = 1; s < 4; s++) {
+            Check.eq("by whoever waits, whatever its purse", x.least(s), 7);
+            Check.eq("b", x.cheapest(), 1);
+        }
+        String ahead = all(x);
+        x.least(3);
+        Check.is("all stays", all(x).equals(ahead));
+    }
+
     @Says("NONE: none, it does not wait, has changed (but for free ones), no such one.")
     private static void p32None() {
         NamesAgain x = Check.town("name a 2;name b 7;name c 5;soul p 0 called a;soul q 0 called b;soul r 9;");
@@ -645,6 +700,24 @@ public final class EdgeAskTest {
         Check.eq("no tenth", nine.queue(9), NONE);
     }
 
+    @Says("Who waits as the k-th (from 0); NONE: nobody.")
+    private static void p35NineWait() {
+        for (int gone = 0; gone < 9; gone++) {
+            NamesAgain x = Check.town(NINE_CALLED.replaceAll(" called [a-i]", ""));
+            Check.eq("nine wait", x.now(3), 9);
+            x.die(gone, 0);
+            for (int k = 0; k < 9; k++) {
+                Check.eq(gone + " is gone, the " + k + "-th", x.queue(k), k == 8 ? NONE : k < gone ? k : k + 1);
+            }
+        }
+        NamesAgain x = Check.town(NINE_CALLED.replaceAll(" called [a-i]", ""));
+        for (int s = 0; s < 9; s++) {
+            Check.eq("the first is called", x.take(s, 8 - s), 0);
+            Check.eq("the next is first", x.queue(0), s == 8 ? NONE : s + 1);
+            Check.eq("fewer wait", x.now(3), 8 - s);
+        }
+    }
+
     // Promises 36 and 37
 
     @Says("n (1 to 60) MONDAYS DRAWN by a seed: how many went by; NONE: not as told, no SOULS, no NAMES.")
@@ -720,6 +793,76 @@ public final class EdgeAskTest {
             x.drawn(20, seed);
             liveByCalls(y, 20, seed);
             Check.is("nine by " + seed, all(x).equals(all(y)));
+        }
+    }
+
+    /** A seed whose first draw of 8 and next draw of another size are as told. */
+    private static int seedFor(int first, int size, int second) {
+        for (int seed = 0; seed < 100000; seed++) {
+            int one = seed * 1103515245 + 12345;
+            int two = one * 1103515245 + 12345;
+            if ((one >>> 8) % 8 == first && (two >>> 8) % size == second) {
+                return seed;
+            }
+        }
+        return NONE;
+    }
+
+    @Says("0: a draw of all SOULS: it swaps with that one, if it can")
+    private static void p36Swaps() {
+        NamesAgain x = Check.town("name a 1;name b 1;name c 9;soul p 9 called a;soul q 9 called b;");
+        x.drawn(1, seedFor(0, 2, 1));
+        Check.eq("p was called b", x.called(0, 0), 1);
+        NamesAgain y = Check.town("name a 1;soul p 9 called a;");
+        y.drawn(1, seedFor(0, 1, 0));
+        Check.eq("not with itself", y.called(0, 0), 0);
+        NamesAgain z = Check.town("name a 1;soul p 9 called a;soul q 9;");
+        z.drawn(1, seedFor(0, 2, 1));
+        Check.eq("not with one who waits", z.soul(0, 0), 0);
+    }
+
+    @Says("1: a draw of all NAMES: it takes it, if it can")
+    private static void p36Takes() {
+        NamesAgain x = Check.town("name a 1;name b 1;name c 9;soul p 9;");
+        x.drawn(1, seedFor(1, 3, 2));
+        Check.eq("c", x.called(0, 0), 2);
+        Check.eq("for its PRICE", x.soul(0, 1), 0);
+        NamesAgain y = Check.town("name a 1;name b 1;name c 9;soul p 8;");
+        y.drawn(1, seedFor(1, 3, 2));
+        Check.eq("it can't", y.called(0, 0), NONE);
+        Check.eq("its purse stays", y.soul(0, 1), 8);
+    }
+
+    @Says("2: it flees, if it can")
+    private static void p36Flees() {
+        NamesAgain x = Check.town("name a 1;soul p 9 called a;");
+        x.drawn(1, seedFor(2, 1, 0));
+        Check.eq("fled", x.soul(0, 6), 1);
+        Check.eq("sour", x.name(0, 4), 1);
+        NamesAgain y = Check.town("name a 1;soul p 9;");
+        y.drawn(1, seedFor(2, 1, 0));
+        Check.eq("it can't", y.soul(0, 6), 0);
+    }
+
+    @Says("3: a draw of 5: 0: it dies; then the MONDAY.")
+    private static void p36Dies() {
+        for (int draw = 0; draw < 5; draw++) {
+            NamesAgain x = Check.town("name a 1;soul p 9 called a;");
+            x.drawn(1, seedFor(3, 5, draw));
+            Check.eq("by " + draw, x.soul(0, 2), draw == 0 ? 0 : 1);
+            Check.eq("a hanging it is not", x.name(0, 5), 0);
+            Check.eq("then the MONDAY", x.called(0, 0), draw == 0 ? NONE : 0);
+        }
+        for (int what = 4; what < 8; what++) {
+            NamesAgain x = Check.town("name a 1;soul p 9 called a;");
+            String ahead = all(x);
+            x.drawn(1, seedFor(what, 1, 0));
+            x.image(0);
+            x.undo();
+            x.mondays(1);
+            String one = all(x);
+            x.restore(0);
+            Check.is("nothing but the MONDAY by " + what, all(x).equals(one) && !one.equals(ahead));
         }
     }
 

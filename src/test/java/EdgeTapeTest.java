@@ -224,6 +224,60 @@ public final class EdgeTapeTest {
         Check.eq("nothing to undo", x.undo(), NONE);
     }
 
+    @Says("A new TOWN: MONDAY 0, no SENTENCE.")
+    private static void p04ToldLastStays() {
+        NamesAgain x = Check.town(TOWN);
+        Check.eq("wishes", x.wishes(), 1);
+        Check.eq("least", x.least(3), 4);
+        Check.roll(x, "monday 3;r flees;", 0);
+        x.image(1);
+        Check.put(x, TOWN);
+        x.town();
+        Check.eq("by the latest wishes()", x.partner(0), 1);
+        Check.eq("by the latest least()", x.cheapest(), 1);
+        Check.eq("of the latest roll()", x.rolled(0), 42);
+        Check.eq("of the latest roll()", x.rolled(2), 3);
+        Check.is("what is kept", x.restore(1));
+    }
+
+    @Says("A new TOWN: MONDAY 0, no SENTENCE.")
+    private static void p04NothingIsLeft() {
+        StringBuilder full = new StringBuilder();
+        for (char c = 'a'; c < 'j'; c++) {
+            full.append("name n" + c + " 99;soul s" + c + " 99 called n" + c + ";debt n" + c + " 99;feast n" + c + " 1;old s" + c + " 0;");
+            full.append("wish s" + c + " n" + c + ";worth s" + c + " na 9;");
+        }
+        String few = "name a 3;name b 4;soul p 5;soul q 6 called b;";
+        NamesAgain x = Check.town(full.toString());
+        x.mondays(3);
+        x.die(0, 1);
+        x.flee(1);
+        x.swap(2, 3);
+        Check.put(x, few);
+        x.town();
+        NamesAgain y = Check.town(few);
+        for (int m = 0; m < 3; m++) {
+            Check.is("as in a new object", all(x).equals(all(y)));
+            for (int i = 0; i < 4; i++) {
+                Check.eq("WORTH", x.worth(i / 2, i % 2), 0);
+                Check.eq("howLong", x.howLong(i / 2, i % 2), y.howLong(i / 2, i % 2));
+            }
+            Check.eq("must", x.must(199), y.must(199));
+            Check.eq("wishes", x.wishes(), 0);
+            Check.eq("bearers", x.bearers(0), 0);
+            Check.eq("feasts", x.feasts(0, 99), 0);
+            Check.eq("party", x.party(), y.party());
+            x.mondays(1);
+            y.mondays(1);
+        }
+        Check.put(x, "soul p 5;");
+        x.town();
+        Check.eq("no NAME is left", x.name(0, 0), NONE);
+        Check.eq("one purse", x.now(4), 5);
+        Check.eq("no debt", x.now(5), 0);
+        Check.eq("one lives", x.now(1), 1);
+    }
+
     // Promise 5
 
     @Says("0 without one and ahead of any.")
@@ -563,6 +617,28 @@ public final class EdgeTapeTest {
         Check.eq("no SENTENCE", x.said(NONE), NONE);
         Check.is("again", x.restore(1));
         Check.is("all is so again", all(x).equals(kept));
+    }
+
+    @Says("TOWN, all that is so and the SENTENCE are kept in place k (0, 1): true")
+    private static void p42PastKept() {
+        NamesAgain x = Check.town(TOWN);
+        x.mondays(5);
+        x.image(0);
+        String kept = all(x);
+        Check.put(x, TOWN);
+        x.town();
+        x.swap(0, 1);
+        x.mondays(2);
+        x.flee(0);
+        x.mondays(9);
+        x.image(1);
+        String other = all(x);
+        Check.is("0", x.restore(0));
+        Check.is("who was called what when", all(x).equals(kept));
+        x.sell(0, 3);
+        x.mondays(60);
+        Check.is("1", x.restore(1));
+        Check.is("who was called what when", all(x).equals(other));
     }
 
     @Says("They are as kept in place k")

@@ -556,6 +556,20 @@ public final class EdgeTextTest {
         sentenceFault("(alive;", 1, 6);
     }
 
+    @Says("'alive' | 'waits'")
+    private static void sentenceAliveWaits() {
+        NamesAgain x = four();
+        saidOf(x, "alive", 0, 1, 2, 3);
+        saidOf(x, "waits", 2, 3);
+        x.die(2, 0);
+        x.flee(0);
+        saidOf(x, "alive", 0, 1, 3);
+        saidOf(x, "waits", 0, 3);
+        saidOf(x, "not waits", 1, 2);
+        sentenceFault("alive n", 1, 6);
+        sentenceFault("waits = 1", 1, 6);
+    }
+
     @Says("'called' NAME")
     private static void sentenceCalled() {
         NamesAgain x = four();
@@ -599,6 +613,7 @@ public final class EdgeTextTest {
         saidOf(x, "owes = 99", 0);
         saidOf(x, "owes > 0", 0, 1);
         saidOf(x, "owes < 1", 2);
+        saidOf(x, "owes = 0", 2);
         saidOf(x, "feasts > 0");
         x.mondays(60);
         saidOf(x, "feasts = 60", 1);
