@@ -723,6 +723,28 @@ public final class EdgeTextTest {
         townFault(NINE_NAMES + "names nj 1;", 1, 90);
     }
 
+    @Says("of one TOKEN the least")
+    private static void faultLeastOfOwnWords() {
+        String two = "name n 1;soul s 1;";
+        for (String own : TextTest.OWN_WORDS) {
+            townFault(two + "debt " + own + " 1;", 1, 23);
+            townFault(two + "feast " + own + " 1;", 1, 24);
+            townFault(two + "soul t 1 called " + own + ";", 1, 34);
+            townFault(two + "wish " + own + " n;", 1, 23);
+            townFault(two + "wish s " + own + ";", 1, 25);
+            townFault(two + "worth " + own + " n 1;", 1, 24);
+            townFault(two + "worth s " + own + " 1;", 1, 26);
+            townFault(two + "old " + own + " 1;", 1, 22);
+            rollFault("s takes " + own + ";", 1, 8);
+            rollFault("s swaps " + own + ";", 1, 8);
+            rollFault("s sells " + own + ";", 1, 8);
+            sentenceFault("called " + own, 1, 7);
+            if (!own.equals("monday")) {
+                rollFault(own + " dies;", 1, 0);
+            }
+        }
+    }
+
     @Says("1 no TOKEN, or one that can't come (at it;")
     private static void faultCantCome() {
         townFault("  Name n 1;", 1, 2);
@@ -769,6 +791,17 @@ public final class EdgeTextTest {
         sentenceFault("alive" + blanks(195) + "x", 1, 200);
         sentenceFault("alive or" + blanks(192) + "fled", 1, 200);
         sentenceFault("called x" + blanks(200), 3, 7);
+    }
+
+    @Says("the most bytes told, if there are more and no FAULT is ahead")
+    private static void faultBehindTheLastSign() {
+        sentenceFault(blanks(199) + "(alive)", 1, 200);
+        sentenceFault(blanks(193) + "purse <<5", 1, 200);
+        sentenceFault("((alive" + blanks(192) + "))", 1, 200);
+        sentenceFault(blanks(193) + "(alive) or fled", 1, 200);
+        townFault("name n 1" + blanks(891) + ";;", 1, 900);
+        townFault("name n 1" + blanks(891) + "; ", 1, 900);
+        rollFault("s dies" + blanks(393) + ";;", 1, 400);
     }
 
     @Says("TOKENS that begin ahead of it are read whole)")
