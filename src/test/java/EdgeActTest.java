@@ -488,7 +488,7 @@ public final class EdgeActTest {
         Check.is("each was drawn", found[0] > 0 && found[3] > 0 && found[5] > 0);
     }
 
-    @Says("x becomes x * 1103515245 + 12345 (an int, wrapping), the draw is (x >>> 8) % n")
+    @Says("(A lot, too, draws so, by its seed.)")
     private static void lotSeedsWrap() {
         for (int seed : new int[] {0, 1, -1, Integer.MAX_VALUE, Integer.MIN_VALUE, 2, 1 << 30, -12345}) {
             NamesAgain x = town();

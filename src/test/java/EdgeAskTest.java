@@ -227,6 +227,23 @@ public final class EdgeAskTest {
         Check.eq("nothing to undo", x.undo(), NONE);
     }
 
+    @Says("SWAPS: the fewest swaps in all.")
+    private static void fewestSwaps() {
+        // Who gets whose NAME: each ring needs one swap fewer than it has SOULS.
+        String[] wishes = {"bcdefghia", "badcfehgi", "bcaefdhig", "bcdaefghi", "bcdeafghi", "bcdeaghif", "abcdefghi", "ibcdefgha", "ihgfedcba"};
+        int[] due = {8, 4, 6, 3, 4, 7, 0, 1, 4};
+        int[] mondays = {2, 1, 2, 2, 2, 2, 0, 1, 1};
+        for (int i = 0; i < wishes.length; i++) {
+            StringBuilder text = new StringBuilder(NINE_CALLED);
+            for (int s = 0; s < 9; s++) {
+                text.append("wish s").append((char) ('a' + s)).append(' ').append(wishes[i].charAt(s)).append(';');
+            }
+            NamesAgain x = Check.town(text.toString());
+            Check.eq("swaps of " + wishes[i], x.swaps(), due[i]);
+            Check.eq("MONDAYS of " + wishes[i], x.wishes(), mondays[i]);
+        }
+    }
+
     @Says("SWAPS: how many; NONE: never.")
     private static void p24Swaps() {
         String[] told = {"", "wish p a;", "wish p b;", "wish p b;wish q a;", "wish p b;wish q a;wish r d;wish s c;", "wish p b;wish q c;wish r d;",

@@ -607,9 +607,11 @@ public final class EdgeTextTest {
         saidOf(x, "glad");
     }
 
-    @Says("(what its NAME owes; how often a feast fell on it; its number)")
+    @Says("( 'purse' | 'owes' | 'feasts' | 'number' ) SIGN NUMBER (what its NAME owes; how often a feast fell on it; its number)")
     private static void sentenceMeasures() {
         NamesAgain x = Check.town("name a 1;name b 1;debt a 99;debt b 1;feast b 1;soul p 999 called a;soul q 0 called b;soul r 5;");
+        saidOf(x, "purse = 999", 0);
+        saidOf(x, "purse < 6", 1, 2);
         saidOf(x, "owes = 99", 0);
         saidOf(x, "owes > 0", 0, 1);
         saidOf(x, "owes < 1", 2);

@@ -8,7 +8,7 @@ import java.util.TreeSet;
 
 /** The public face is the document's and no more; and calls make no objects, as all of a run share one room. */
 public final class FaceTest {
-    private static final String[] FACE = {"int feed(int,int,int,int,int)", "boolean end(int)", "int town()", "int fault()",
+    static final String[] FACE = {"int feed(int,int,int,int,int)", "boolean end(int)", "int town()", "int fault()",
         "int name(int,int)", "int soul(int,int)", "int worth(int,int)", "int now(int)", "int take(int,int)", "int swap(int,int)",
         "int sell(int,int)", "int die(int,int)", "int flee(int)", "int pay(int,int)", "int lot(int,int)", "int mondays(int)", "int undo()",
         "int called(int,int)", "int holder(int,int)", "int bearers(int)", "int howLong(int,int)", "int wishes()", "int swaps()",
