@@ -1,6 +1,6 @@
 /**
- * For each promise a test that quotes all of it, with ordinary calls in one small TOWN; the answers were worked out from
- * the document by hand. The edges have tests of their own.
+ * For each promise a test that quotes all of it, with ordinary calls in one small TOWN. The answers were worked out from
+ * the document by hand, those of draws by a program of another language. The edges have tests of their own.
  */
 public final class PromiseTest {
     private static final int NONE = NamesAgain.NONE;
@@ -616,7 +616,6 @@ public final class PromiseTest {
     @Says("Of n (1 to 30) seeds x, x and 1, .. by how many a SOUL is called something behind 20 MONDAYS DRAWN from now on; NONE: no such ones, no NAMES.")
     private static void promise37() {
         NamesAgain x = Check.town("name n 1;soul s 5;");
-        // Counted by a program of another language, from the document's words.
         eq("seeds 0 to 29", x.odds(0, 30, 0), 3);
         eq("seeds 7 to 16", x.odds(0, 10, 7), 1);
         eq("seeds -3 to 2", x.odds(0, 6, -3), 1);
